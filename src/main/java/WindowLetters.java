@@ -204,9 +204,9 @@ public final class WindowLetters {
             return NONE;
         }
         switch (what) {
-            case 0: return found % WAYS;
-            case 1: return found / WAYS / COLUMNS;
-            default: return found / WAYS % COLUMNS;
+            case 0: return wayIn(found);
+            case 1: return rowIn(found);
+            default: return columnIn(found);
         }
     }
 
@@ -357,6 +357,25 @@ public final class WindowLetters {
         return way < TURNS ? 0 : 1;
     }
 
+    // ---- fits, each a number: (row * COLUMNS + column) * WAYS + way
+
+    private static int rowIn(int fit) {
+        return fit / WAYS / COLUMNS;
+    }
+
+    private static int columnIn(int fit) {
+        return fit / WAYS % COLUMNS;
+    }
+
+    private static int wayIn(int fit) {
+        return fit % WAYS;
+    }
+
+    /** The lowest number in a set, and 32 if it is empty: how many bits stand below its lowest one. */
+    private static int lowestIn(int set) {
+        return Integer.bitCount(~set & set - 1);
+    }
+
     /** The rows of all letters in all ways, worked out once because every fit asks for them. */
     private static final class Shapes {
         private final int[] rows = new int[LETTERS * WAYS * LONG_SIDE];
@@ -443,15 +462,6 @@ public final class WindowLetters {
             this.shapes = shapes;
         }
 
-        /** Sheets are used again after an undo, so what an earlier one left has to go. */
-        void startAnew(int newColour) {
-            colour = newColour;
-            scrapped = false;
-            for (int row = 0; row < ROWS; row++) {
-                cutColumns[row] = 0;
-            }
-        }
-
         void copyFrom(Sheet other) {
             colour = other.colour;
             scrapped = other.scrapped;
@@ -461,15 +471,24 @@ public final class WindowLetters {
         }
 
         boolean canCut(int letter, int way, int row, int column) {
-            if (scrapped || !isOnSheet(way, row, column)) {
-                return false;
+            return column >= 0 && column < COLUMNS && (freeColumns(letter, way, row) >> column & 1) != 0;
+        }
+
+        /** The columns at which a letter can be cut in a way at a row, as a set. */
+        private int freeColumns(int letter, int way, int row) {
+            if (scrapped || !isOnSheet(way, row, 0)) {
+                return 0;
             }
+            int free = (1 << COLUMNS - widthOf(way) + 1) - 1;
             for (int i = 0; i < heightOf(way); i++) {
-                if ((cutColumns[row + i] & shapes.columnsOf(letter, way, i) << column) != 0) {
-                    return false;
+                int squares = shapes.columnsOf(letter, way, i);
+                for (int j = 0; j < widthOf(way); j++) {
+                    if ((squares >> j & 1) != 0) {
+                        free &= ~(cutColumns[row + i] >> j);
+                    }
                 }
             }
-            return true;
+            return free;
         }
 
         void cutOut(int letter, int way, int row, int column) {
@@ -486,37 +505,36 @@ public final class WindowLetters {
             return row >= 0 && row <= ROWS - heightOf(way) && column >= 0 && column <= COLUMNS - widthOf(way);
         }
 
-        /** The first fit as (row * COLUMNS + column) * WAYS + way, or NONE. */
+        /** The first fit as rowIn, columnIn and wayIn take it apart, or NONE. */
         int firstFit(int letter, int mirrored) {
             for (int row = 0; row < ROWS; row++) {
-                for (int column = 0; column < COLUMNS; column++) {
-                    for (int turn = 0; turn < TURNS; turn++) {
-                        int way = mirrored * TURNS + turn;
-                        if (canCut(letter, way, row, column)) {
-                            return (row * COLUMNS + column) * WAYS + way;
-                        }
+                int firstColumn = COLUMNS;
+                int firstWay = NONE;
+                for (int turn = 0; turn < TURNS; turn++) {
+                    int way = mirrored * TURNS + turn;
+                    int column = lowestIn(freeColumns(letter, way, row));
+                    if (column < firstColumn) {
+                        firstColumn = column;
+                        firstWay = way;
                     }
+                }
+                if (firstWay != NONE) {
+                    return (row * COLUMNS + firstColumn) * WAYS + firstWay;
                 }
             }
             return NONE;
         }
 
-        /**
-         * Cuts a letter as often as it fits. What does not fit never fits later, so the first fits
-         * follow one another in the order of places and ways, and one pass meets them all.
-         */
+        /** Cuts a letter, each time at its first fit, until there is none, and answers how often. */
         int cutUp(int letter, int mirrored) {
             int many = 0;
-            for (int row = 0; row < ROWS; row++) {
-                for (int column = 0; column < COLUMNS; column++) {
-                    for (int turn = 0; turn < TURNS; turn++) {
-                        int way = mirrored * TURNS + turn;
-                        if (canCut(letter, way, row, column)) {
-                            cutOut(letter, way, row, column);
-                            many++;
-                        }
-                    }
+            while (many < ROWS * COLUMNS) {
+                int found = firstFit(letter, mirrored);
+                if (found == NONE) {
+                    return many;
                 }
+                cutOut(letter, wayIn(found), rowIn(found), columnIn(found));
+                many++;
             }
             return many;
         }
@@ -525,11 +543,7 @@ public final class WindowLetters {
             int many = 0;
             for (int way = 0; way < WAYS; way++) {
                 for (int row = 0; row < ROWS; row++) {
-                    for (int column = 0; column < COLUMNS; column++) {
-                        if (canCut(letter, way, row, column)) {
-                            many++;
-                        }
-                    }
+                    many += Integer.bitCount(freeColumns(letter, way, row));
                 }
             }
             return many;
@@ -631,7 +645,8 @@ public final class WindowLetters {
             if (number < 0 || number >= SHEETS) {
                 return TOO_MANY;
             }
-            sheets[number].startAnew(colour);
+            // Every copy holds the sheets that are yet to come, too, so this one is whole as it is made.
+            sheets[number].colour = colour;
             sheetCount++;
             return number;
         }
@@ -641,9 +656,18 @@ public final class WindowLetters {
             if (stock == null || !stock.canCut(letter, way, row, column)) {
                 return NOT_POSSIBLE;
             }
+            return addPiece(sheet, letter, way, row, column);
+        }
+
+        /** Cuts a piece at a place of which the caller knows that it can be cut there. */
+        private int addPiece(int sheet, int letter, int way, int row, int column) {
             int number = pieceCount;
             if (number < 0 || number >= PIECES) {
                 return TOO_MANY;
+            }
+            Sheet stock = sheetAt(sheet);
+            if (stock == null) {
+                return NOT_POSSIBLE;
             }
             stock.cutOut(letter, way, row, column);
             Piece piece = pieces[number];
@@ -665,8 +689,7 @@ public final class WindowLetters {
                 }
                 int found = stock.firstFit(letter, mirrored);
                 if (found != NONE) {
-                    int corner = found / WAYS;
-                    return cutPiece(sheet, letter, found % WAYS, corner / COLUMNS, corner % COLUMNS);
+                    return addPiece(sheet, letter, wayIn(found), rowIn(found), columnIn(found));
                 }
             }
             return NOT_POSSIBLE;

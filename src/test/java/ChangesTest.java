@@ -239,6 +239,7 @@ public final class ChangesTest {
         WindowLetters full = Due.fullShop();
         Due.pad(full, "iii");
         due.is("without a cut with 48 pieces", full.write(0, 0, 1, 0), 0);
+        due.is("the pad is empty all the same", full.count(8), 0);
         Due.pad(full, "il");
         due.is("not with a cut", full.write(1, 0, 1, 0), NOT_POSSIBLE);
         due.is("the I stays loose", full.of(3, 3), 0);
@@ -346,6 +347,8 @@ public final class ChangesTest {
         due.is("undo()", x.undo(), 4);
         due.is("pane(1, 8)", x.pane(1, 8), 0);
         due.is("of(0, 4)", x.of(0, 4), 20);
+        due.is("from the first place on", x.clear(2), 1);
+        due.is("pane(2, 0)", x.pane(2, 0), NONE);
     }
 
     private static void throwAway(Due due) {
