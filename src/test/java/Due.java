@@ -1,4 +1,7 @@
 import java.util.function.Consumer;
+import java.util.function.IntUnaryOperator;
+import java.util.function.Supplier;
+import java.util.function.ToIntFunction;
 
 /** Compares answers with those that are due, and ends a test's main method. */
 final class Due {
@@ -16,12 +19,41 @@ final class Due {
         checksOfPart.accept(this);
     }
 
+    int checks() {
+        return checks;
+    }
+
     void is(String call, long got, long want) {
         checks++;
         if (got != want) {
             wrong++;
             System.out.println(test + ", " + part + ": " + call + " answered " + got + ", due is " + want);
         }
+    }
+
+    /**
+     * A number that is given to a call is refused with a code outside of a range, near to it, far from it, and where
+     * its lowest bits would be in range, and is not refused with it inside.
+     */
+    void bounds(String call, int low, int high, int code, IntUnaryOperator answer) {
+        for (int number = low; number <= high; number++) {
+            is("whether " + call + " is refused with " + number, answer.applyAsInt(number) == code ? 1 : 0, 0);
+        }
+        int[] outside = {low - 1, high + 1, low - 2, high + 2, low + 16, low + 32, high + 32, low + 64, low + 256,
+            high + 256, low - 256, low + (1 << 16), low + (1 << 31), high + (1 << 31), Integer.MIN_VALUE,
+            Integer.MAX_VALUE};
+        for (int number : outside) {
+            if (number < low || number > high) {
+                is(call + " with " + number, answer.applyAsInt(number), code);
+            }
+        }
+    }
+
+    /** A call answers an error, and nothing that can be learned of the object is different for it. */
+    void refuses(String call, int code, Supplier<WindowLetters> made, ToIntFunction<WindowLetters> asked) {
+        is(call, asked.applyAsInt(made.get()), code);
+        boolean same = Views.after(made, asked).equals(Views.after(made, x -> 0));
+        is("whether something is different after " + call, same ? 0 : 1, 0);
     }
 
     void end() {

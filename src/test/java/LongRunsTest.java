@@ -3,7 +3,7 @@
  * The calls are mixed by a plain sequence of numbers; some runs prefer one letter, so that pieces run out.
  */
 public final class LongRunsTest {
-    private static final int RUNS = 240, CALLS = 512;
+    private static final int RUNS = 600, CALLS = 512, CALLS_OF_A_STEP = 5;
     private static final int[] WILD = {-1, -6, 2, 3, 5, 6, 7, 8, 9, 10, 12, 13, 14, 48, 100, Integer.MIN_VALUE,
         Integer.MAX_VALUE};
 
@@ -30,13 +30,15 @@ public final class LongRunsTest {
         due.end();
     }
 
+    /** Each check is one call, of which an object is promised to answer 512. */
     private void go() {
-        int start = onlyLetter >= 0 ? 6 : 1 + upTo(3);
-        for (int i = 0; i < CALLS; i++) {
-            String number = i + ": ";
-            if (i < start) {
+        int first = due.checks();
+        int sheets = onlyLetter >= 0 ? 6 : 1 + upTo(3);
+        for (int calls = 0; calls < CALLS; calls = due.checks() - first) {
+            String number = calls + ": ";
+            if (calls < sheets) {
                 sheet(number);
-            } else if (upTo(100) < 50) {
+            } else if (calls <= CALLS - CALLS_OF_A_STEP && upTo(100) < 50) {
                 change(number);
             } else {
                 ask(number);
@@ -78,7 +80,7 @@ public final class LongRunsTest {
     }
 
     private void cut(String number) {
-        int sheet = some(0, x.count(0) - 1);
+        int sheet = some(0, plain.count(0) - 1);
         int letter = letter();
         int way = some(0, 7);
         int row = some(0, 6);
@@ -108,7 +110,7 @@ public final class LongRunsTest {
     }
 
     private void place(String number) {
-        int piece = some(0, x.count(1) - 1);
+        int piece = some(0, plain.count(1) - 1);
         int pane = some(0, 2);
         int place = some(0, 11);
         due.is(number + "place(" + piece + ", " + pane + ", " + place + ")",
@@ -121,7 +123,7 @@ public final class LongRunsTest {
     }
 
     private void throwAway(String number) {
-        int piece = some(0, x.count(1) - 1);
+        int piece = some(0, plain.count(1) - 1);
         due.is(number + "throwAway(" + piece + ")", x.throwAway(piece), plain.throwAway(piece));
     }
 
@@ -164,14 +166,14 @@ public final class LongRunsTest {
     }
 
     private void ask(String number) {
-        int sheet = some(0, x.count(0) - 1);
+        int sheet = some(0, plain.count(0) - 1);
         int letter = some(0, 7);
         int mirrored = some(0, 1);
         int what = some(0, 9);
         String three = "(" + sheet + ", " + letter + ", " + mirrored + ")";
         switch (upTo(9)) {
             case 0: {
-                int piece = some(0, x.count(1) - 1);
+                int piece = some(0, plain.count(1) - 1);
                 due.is(number + "of(" + piece + ", " + what + ")", x.of(piece, what), plain.of(piece, what));
                 break;
             }

@@ -1,12 +1,10 @@
 /** The promises 20 to 22: put, wipe and fault. */
 public final class TextsTest {
-    private static final int BAD_VALUE = -2, TOO_MANY = -4, NONE = -6;
+    private static final int NONE = -6;
 
     public static void main(String[] args) {
         Due due = new Due("TextsTest");
         due.part("20 put", TextsTest::put);
-        due.part("20 put, errors", TextsTest::putErrors);
-        due.part("20 put, the bound", TextsTest::putUpToTheBound);
         due.part("21 wipe", TextsTest::wipe);
         due.part("22 fault", TextsTest::fault);
         due.end();
@@ -25,36 +23,6 @@ public final class TextsTest {
         due.is("fault()", x.fault(), NONE);
         due.is("put of one", x.put('s'), 9);
         due.is("put is no change", x.count(9), 2);
-    }
-
-    private static void putErrors(Due due) {
-        WindowLetters x = new WindowLetters();
-        long[] bad = {0, 32, 127, 128, 255, 256, 0x6900, 0x690069, 0x2069, 0x6920, 0x7f69, 0xe969, -1, Long.MIN_VALUE,
-            Long.MAX_VALUE, Long.MIN_VALUE | 0x69, 1L << 56 | 0x69, 0x0100000000000069L, 0x6969696969696900L,
-            0x6969690069696969L, 0x8069696969696969L, 0x2069696969696969L, 0x7f69696969696969L, 'i' | 1L << 32};
-        for (long number : bad) {
-            due.is("put(" + number + ")", x.put(number), BAD_VALUE);
-        }
-        due.is("count(8)", x.count(8), 0);
-        due.is("the lowest code", x.put(33), 1);
-        due.is("the highest code", x.put(126), 2);
-        due.is("the highest code eight times", x.put(0x7e7e7e7e7e7e7e7eL), 10);
-        due.is("the lowest code eight times", x.put(0x2121212121212121L), 18);
-    }
-
-    private static void putUpToTheBound(Due due) {
-        WindowLetters x = new WindowLetters();
-        for (int i = 1; i <= 9; i++) {
-            due.is("put " + i, x.put(Due.number("iiiiiiii")), 8 * i);
-        }
-        due.is("to 73", x.put('i'), 73);
-        due.is("beyond 80", x.put(Due.number("iiiiiiii")), TOO_MANY);
-        due.is("a bad number ahead of too many", x.put(0), BAD_VALUE);
-        due.is("to 80", x.put(Due.number("iiiiiii")), 80);
-        due.is("to 81", x.put('i'), TOO_MANY);
-        due.is("count(8)", x.count(8), 80);
-        due.is("wipe()", x.wipe(), 80);
-        due.is("put again", x.put('i'), 1);
     }
 
     private static void wipe(Due due) {
