@@ -26,7 +26,7 @@ public final class EdgesOfChangesTest {
         due.part("5: NO_SUCH if there is no such pane or place", EdgesOfChangesTest::writeNoSuch);
         due.part("5: BAD_TEXT if the pad has a fault", EdgesOfChangesTest::writeBadText);
         due.part("5: BAD_VALUE if colour or mirrored is out of range", EdgesOfChangesTest::writeBadValue);
-        due.part("5: NOT_POSSIBLE ahead of no other error", EdgesOfChangesTest::writeOrderOfErrors);
+        due.part("5: NOT_POSSIBLE is checked last", EdgesOfChangesTest::writeOrderOfErrors);
         due.part("5: the lowest loose piece that is such a letter", EdgesOfChangesTest::writeLowestLoose);
         due.part("5: a new piece at the first fit on the lowest sheet that has one", EdgesOfChangesTest::writeNewPieces);
         due.part("5: all of this, or nothing", EdgesOfChangesTest::writeAllOrNothing);
